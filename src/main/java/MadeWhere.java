@@ -113,8 +113,11 @@ public final class MadeWhere {
     }
 
     public boolean tariff(int land, int heading, int thousandths) {
-        return isPlace(land, heading) && within(thousandths, 0, THOUSAND)
-            && border.setTariff(land, heading, thousandths);
+        if (!isPlace(land, heading) || !within(thousandths, 0, THOUSAND)) {
+            return false;
+        }
+        border.setTariff(land, heading, thousandths);
+        return true;
     }
 
     public int grown(int land, int heading, int price, int many) {
@@ -1163,9 +1166,8 @@ public final class MadeWhere {
             }
         }
 
-        boolean setTariff(int toLand, int heading, int thousandths) {
+        void setTariff(int toLand, int heading, int thousandths) {
             tariffs[toLand * HEADINGS + heading] = thousandths;
-            return true;
         }
 
         int tariffOf(int toLand, int heading) {
