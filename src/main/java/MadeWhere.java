@@ -441,15 +441,7 @@ public final class MadeWhere {
             put(label);
             put(0);
             need(':');
-            readBody();
-            if (start + 1 < BYTES) {
-                steps[start + 1] = stepsSize;
-            }
-        }
-
-        private void readBody() {
-            int sign = peek();
-            boolean summed = sign != '!' && sign != '(';
+            boolean summed = peek() != '!' && peek() != '(';
             if (summed) {
                 readSum(0);
             }
@@ -458,6 +450,9 @@ public final class MadeWhere {
                 need('?');
                 put(-'?');
                 readSum(0);
+            }
+            if (start + 1 < BYTES) {
+                steps[start + 1] = stepsSize;
             }
         }
 
@@ -494,19 +489,15 @@ public final class MadeWhere {
                 if (!summed) {
                     readSum(depth);
                 }
-                readComparison(depth);
+                int comparison = peek();
+                if (!isComparison(comparison)) {
+                    fail();
+                    return;
+                }
+                at++;
+                readSum(depth);
+                put(-comparison);
             }
-        }
-
-        private void readComparison(int depth) {
-            int sign = peek();
-            if (!isComparison(sign)) {
-                fail();
-                return;
-            }
-            at++;
-            readSum(depth);
-            put(-sign);
         }
 
         private static boolean isComparison(int sign) {
@@ -562,7 +553,7 @@ public final class MadeWhere {
         }
 
         private static boolean isDigit(int sign) {
-            return within(sign, '0', '9');
+            return sign >= '0' && sign <= '9';
         }
 
         /** Steps over a ( [ or !, unless it would be the ninth within one another. */
