@@ -35,6 +35,7 @@ public final class PromisesTest {
         duty();
         book();
         bookLimit();
+        bookFull();
         offers();
         best();
         bestOfWebs();
@@ -158,9 +159,16 @@ public final class PromisesTest {
         for (int i = 1; i <= 9; i++) due(x.feed(-1, -1, -1, -1, -1), 20 * i);
         due(x.feed(-1, -1, -1, -1, 0), 196);
         due(x.feed(-1, 1, 0, 0, 0), NONE);
+        due(x.feed(0, -1, 1, 0, 0), NONE);
+        due(x.feed(0, 0, -1, 1, 0), NONE);
+        due(x.feed(0, 0, 0, -1, 1), NONE);
+        due(x.feed(1, 0, 0, 0, -1), NONE);
         due(x.count(8), 196);
         due(x.feed(0, 0, 0, 0x01010101, 0), 200);
-        due(x.feed(1, 0, 0, 0, 0), NONE);
+        for (int shift = 0; shift < 32; shift += 8) {
+            due(x.feed(1 << shift, 0, 0, 0, 0), NONE);
+            due(x.feed(0, 0, 0, 0, 1 << shift), NONE);
+        }
         due(x.feed(0, 0, 0, 0, 0), 200);
         due(x.fault(), 0);
     }
@@ -267,7 +275,7 @@ public final class PromisesTest {
         sum("[0-7]/2+10", 7);
         sum("h", 42);
         sum("y", 2);
-        sum("a+n+b+o+c+p", 0);
+        sum("1+a+n+b+o+c+p", 1);
         sum("99999*99999/10000", 1000);
         sum("99999*99999/20000", 500);
         sum("99999*99999+99999-99999*100", 100);
@@ -451,10 +459,35 @@ public final class PromisesTest {
         due(x.clear(), 6);
         due(x.draw(1, 2), NONE);
         due(x.draw(1, 1), 1);
+        heapsApart();
+    }
+
+    private static void heapsApart() {
+        due(x.clear(), 1);
         promise = 13;
         for (int i = 11; i < 100; i++) due(x.pour(2, 0, 1), i - 10);
         due(x.pour(2, 0, 1), NONE);
         due(x.pour(3, 0, 1), NONE);
+        fresh(14);
+        due(x.grown(0, 0, 1, 1000), 0);
+        for (int i = 0; i < 7; i++) {
+            due(x.pour(0, 0, 1), i + 1);
+            due(x.pour(1, 0, 10), 10 * i + 10);
+        }
+        due(x.draw(0, 7), NONE);
+        due(x.draw(1, 61), NONE);
+        due(x.draw(0, 3), 3);
+        due(x.draw(1, 31), NONE);
+        due(x.draw(1, 25), 6);
+        due(x.made(0, 0, 0, 1, 1), 1);
+        due(x.entry(1, 2, 1), 1);
+        due(x.entry(1, 3, 1), 10);
+        due(x.entry(1, 5, 1), 5);
+        due(x.draw(1, 45), 5);
+        due(x.draw(0, 2), NONE);
+        due(x.draw(0, 1), 6);
+        due(x.made(0, 0, 0, 1, 1), 2);
+        due(x.entry(2, 0, 1), 5);
     }
 
     private static void made() {
@@ -563,6 +596,19 @@ public final class PromisesTest {
     }
 
     private static void own() {
+        fresh(20);
+        due(x.grown(0, 0, 1, 10000), 0);
+        for (int b = 1; b < 100; b++) {
+            x.lay(b - 1, 1);
+            x.lay(0, b);
+            due(x.made(0, 0, 0, 1, 1), b);
+        }
+        due(x.entry(99, 0, 0), 98);
+        due(x.entry(99, 0, 1), 1);
+        due(x.entry(99, 1, 0), 0);
+        due(x.entry(99, 1, 1), 99);
+        due(x.entry(50, 1, 1), 50);
+        due(x.entry(99, 2, 0), NONE);
         fresh(21);
         due(x.days(10), 10);
         due(x.grown(2, 0, 10, 100), 0);
@@ -600,6 +646,10 @@ public final class PromisesTest {
         due(x.own(0, 0, 15), 1);
         due(x.own(0, 0, 16), 0);
         due(x.own(1, 0, 16), 1);
+        due(x.own(1, 3, 16), 0);
+        due(x.members(3, 4, 0), true);
+        due(rule(3, 0, "r:1"), 4);
+        due(x.own(1, 3, 16), 1);
     }
 
     /** Parts of the web count together, of another web never; each is judged on its own day. */
@@ -714,6 +764,9 @@ public final class PromisesTest {
         due(x.undo(0), true);
         due(x.failing(2, 0, 3), 0);
         due(x.failing(2, 0, 2), NONE);
+        due(x.lay(1, 1), 1);
+        due(x.made(0, 0, 0, 1, 1), 3);
+        due(x.failing(3, 0, 3), NONE);
     }
 
     private static void ship() {
@@ -868,6 +921,13 @@ public final class PromisesTest {
         due(x.paper(12, 0), true);
         due(x.state(11, 361), 6);
         due(x.state(12, 361), 1);
+        due(rule(1, 361, "s:0;g:1000;z:1"), 5);
+        due(x.ship(0, 2, 1, 1, 0), 13);
+        due(x.ship(0, 1, 1, 1, 0), 14);
+        due(x.paper(13, 0), true);
+        due(x.paper(14, 0), true);
+        due(x.state(13, 361), 6);
+        due(x.state(14, 361), 1);
     }
 
     private static void duty() {
@@ -901,6 +961,15 @@ public final class PromisesTest {
         due(x.duty(2, 1), NONE);
         due(x.tariff(7, 0, 1000), true);
         due(x.duty(2, 2), 100_000_000);
+        fresh(27);
+        due(x.members(0, 3, 0), true);
+        due(rule(0, 0, "r:a;g:0;d:17+a+n+b+o+c+p"), 0);
+        due(x.grown(1, 7, 10, 1000), 0);
+        due(x.lay(0, 10), 1);
+        due(x.made(0, 7, 5, 10, 100), 1);
+        due(x.ship(1, 100, 1, 0, 0), 0);
+        due(x.paper(0, 0), true);
+        due(x.duty(0, 0), 17);
     }
 
     private static void book() {
@@ -950,7 +1019,29 @@ public final class PromisesTest {
         due(x.count(5), 400);
         due(x.ship(0, 1, 2, NONE, 0), 70);
         due(x.book(), NONE);
+        due(x.tariff(2, 0, 0), true);
+        due(x.book(), NONE);
         due(x.line(399, 0), 69);
+        due(x.line(400, 0), -1_000_000_000_000L);
+    }
+
+    /** One line more than there may be, by shipment 0. */
+    private static void bookFull() {
+        fresh(28);
+        due(x.grown(0, 0, 10000, 10000), 0);
+        due(x.grown(0, 1, 10000, 10000), 1);
+        due(x.ship(1, 100, 1, NONE, 0), 0);
+        for (int i = 1; i < 100; i++) due(x.ship(0, 100, 1, NONE, 0), i);
+        due(x.book(), 100);
+        for (int i = 1; i <= 3; i++) {
+            due(x.tariff(1, 0, i), true);
+            due(x.tariff(1, 1, i), true);
+            due(x.book(), 100);
+        }
+        due(x.book(), 0);
+        due(x.tariff(1, 1, 9), true);
+        due(x.book(), NONE);
+        due(x.count(5), 400);
         due(x.line(400, 0), -1_000_000_000_000L);
     }
 
@@ -973,6 +1064,7 @@ public final class PromisesTest {
         due(x.offer(1, 0, 0, 0, 0), 0);
         due(x.offer(2, 0, 0, 0, 0), 0);
         due(x.offer(3, 0, 0, 0, 0), 0);
+        due(x.offer(4, 0, 0, 0, 0), NONE);
         due(x.offer(0, 5, 0, 0, 0), 1);
         due(x.offer(0, 6, 0, 0, 0), 2);
         due(x.offer(0, 7, 0, 0, 0), 3);
@@ -1032,6 +1124,12 @@ public final class PromisesTest {
         due(x.best(0, 0, 0, 5, 1), 5);
         due(x.chosen(0, 0, 0, 5, 1, 0), 1);
         due(x.chosen(0, 0, 0, 5, 1, 1), 1);
+        x.offers();
+        due(rule(0, 0, "r:0;d:0"), 1);
+        due(x.offer(0, 5, 0, 0, 0), 0);
+        due(x.offer(0, 5, 0, 0, 0), 1);
+        due(x.best(0, 0, 0, 5, 1), 10);
+        due(x.chosen(0, 0, 0, 5, 1, 0), 0);
     }
 
     private static void bestOfWebs() {
@@ -1064,6 +1162,11 @@ public final class PromisesTest {
         due(x.best(0, 50, 4, 1000, 1), 612);
         due(rule(0, 721, "r:1;d:0"), 4);
         due(x.best(0, 50, 4, 1000, 1), 612);
+        due(rule(0, 720, "r:1;d:0"), 5);
+        due(x.best(0, 50, 4, 1000, 1), 600);
+        due(rule(0, 720, "r:1;d:0-5"), 6);
+        due(x.best(0, 50, 4, 1000, 1), 600);
+        due(x.best(0, 0, 4, 1000, 0), 700);
         due(x.members(0, 1, 720), true);
         due(x.best(0, 50, 4, 1000, 1), 640);
     }
@@ -1148,10 +1251,26 @@ public final class PromisesTest {
         due(x.struck(0), NONE);
         due(x.strike(0, 0), NONE);
         strikes(1, 1, 6);
+        manyWords();
         promise = 35;
         for (int i = 16; i < 60; i++) due(x.word(1, 1), i);
         due(x.word(1, 1), NONE);
         due(x.count(7), 60);
+    }
+
+    /** Of several fewest sets the one with the lowest words, though greater words stand behind. */
+    private static void manyWords() {
+        MadeWhere before = x;
+        fresh(37);
+        int[][] mosts = {{40, 0, 2, 4, 7}, {34, 1, 2, 4, 7}, {50, 2, 4, 7}, {92, 1, 2}, {33, 1, 2, 4, 7}, {1, 0, 1, 2, 3, 4, 5, 6, 7}};
+        for (int batch = 0; batch < mosts.length; batch++) {
+            due(x.grown(0, 0, 1, mosts[batch][0]), batch);
+            for (int n : new int[] {7, 12, 30, 5, 30, 11, 9, 30}) x.word(batch, n);
+            int[] struck = new int[mosts[batch].length - 1];
+            for (int i = 0; i < struck.length; i++) struck[i] = mosts[batch][i + 1] + 8 * batch;
+            strikes(batch, struck);
+        }
+        x = before;
     }
 
     private static void checks() {
@@ -1168,6 +1287,8 @@ public final class PromisesTest {
         due(x.ship(0, 1, 1, 0, 0), 3);
         for (int s = 0; s < 4; s++) due(x.paper(s, 0), true);
         due(x.check(0, 1, 0), NONE);
+        due(x.check(Integer.MIN_VALUE, 1, 0), NONE);
+        due(x.check(Integer.MAX_VALUE, 1, 0), NONE);
         due(x.check(-1, 1, 0), NONE);
         due(x.check(4, 1, 0), NONE);
         due(x.check(3, 1, 3), NONE);
