@@ -39,6 +39,9 @@ public final class BoundsOfBorderTest {
         checkMost();
         checkGoingRound();
         checkAnew();
+        checkNow();
+        bookNow();
+        bookApart();
         countBounds();
         manyCalls();
         sheet.end();
@@ -850,6 +853,79 @@ public final class BoundsOfBorderTest {
         int[] two = {1, 0, 0, 0, 1, 0};
         for (long seed = 0; seed < 9; seed++) for (int i = 1; i >= 0; i--) sheet.due(x.check(2, seed, i), drawn(seed, two)[i]);
         sheet.due(x.check(3, 3, 0), NONE);
+    }
+
+    private static void checkNow() {
+        fresh("38 and 39: STATE 1 as known NOW, however few are drawn");
+        road("g:2000");
+        x.days(20);
+        for (int s = 0; s < 3; s++) send(s % 2, 1);
+        sheet.due(x.count(10), 3);
+        int[] all = {1, 1, 1};
+        for (long seed = 0; seed < 5; seed++) for (int n = 1; n <= 3; n++) sheet.due(x.check(n, seed, n - 1), drawn(seed, all)[n - 1]);
+        x.days(20);
+        x.undo(0);
+        sheet.due(x.state(0, 39), 1);
+        sheet.due(x.count(10), 1);
+        sheet.due(x.check(1, 5, 0), 1);
+        sheet.due(x.check(2, 5, 0), NONE);
+        sheet.due(x.state(0, 39), 1);
+        sheet.due(x.count(10), 1);
+        sheet.due(x.state(0, 39), 1);
+        sheet.due(x.check(2, 5, 1), NONE);
+        sheet.due(x.state(0, 39), 1);
+        sheet.due(x.book(), 2);
+        sheet.due(x.line(0, 0), 0);
+        sheet.due(x.line(1, 0), 2);
+        sheet.due(x.line(1, 1), 1);
+    }
+
+    /** 100 SHIPMENTS of HEADINGS by tens, each LINE of its own coins, till there are so many LINES. */
+    private static void bookUpTo(int lines) {
+        for (int i = 0; i < 100; i++) {
+            x.grown(0, i / 10, 10000, 10000);
+            x.ship(i, 1 + i, 1, NONE, 0);
+        }
+        for (int i = 1; i <= 3; i++) {
+            for (int h = 0; h < 10; h++) x.tariff(1, h, i);
+            sheet.due(x.book(), 100);
+        }
+        for (int h = 0; h < 9; h++) x.tariff(1, h, 9);
+        sheet.due(x.book(), 90);
+        for (int s = 90; x.count(5) < lines; s++) {
+            x.mend(s, 5000);
+            sheet.due(x.book(), 1);
+        }
+        sheet.due(x.count(5), lines);
+    }
+
+    private static void bookNow() {
+        fresh("28: 400 LINES at most, of DUTY as known NOW");
+        bookUpTo(399);
+        x.days(1000);
+        x.mend(3, 1);
+        x.mend(70, 1);
+        sheet.due(x.book(), NONE);
+        sheet.due(x.count(5), 399);
+        x.mend(3, 10000);
+        sheet.due(x.book(), 1);
+        sheet.due(x.line(399, 0), 70);
+        sheet.due(x.line(399, 2), 1000);
+        sheet.due(x.book(), 0);
+        x.mend(3, 1);
+        sheet.due(x.book(), NONE);
+        sheet.due(x.count(5), 400);
+    }
+
+    private static void bookApart() {
+        fresh("28: each SHIPMENT's DUTY beside what is BOOKED of it");
+        bookUpTo(400);
+        sheet.due(x.book(), 0);
+        x.days(1);
+        sheet.due(x.book(), 0);
+        x.mend(0, 9999);
+        sheet.due(x.book(), NONE);
+        sheet.due(x.line(399, 0), 99);
     }
 
     private static void manyCalls() {

@@ -11,6 +11,7 @@ public final class BoundsOfOriginTest {
         ownGrown();
         ownWorth();
         ownDays();
+        ownBeforeOthers();
         chain();
         letterBounds();
         lettersCut();
@@ -142,6 +143,26 @@ public final class BoundsOfOriginTest {
         sheet.due(x.own(0, 0, 11), 1);
         sheet.due(x.own(0, 0, 12), 0);
         sheet.due(x.own(1, 0, 12), 0);
+    }
+
+    private static void ownBeforeOthers() {
+        fresh("21: as known in q, whatever was told behind it");
+        for (int web = 0; web < 4; web++) x.members(web, 255, 0);
+        for (int web = 0; web < 4; web++) rule(web, 0, "r:c=0?1");
+        for (int b = 0; b < 6; b++) {
+            if (b % 3 < 2) x.grown(0, 0, 1, 10); else make(0, 0, 0, 1, 1, b - 1, 1);
+            x.days(2);
+        }
+        x.undo(1);
+        x.days(1);
+        for (int web = 0; web < 4; web++) {
+            for (int b = 5; b >= 0; b--) {
+                for (int q = 2 * b; q <= 13; q++) sheet.due(x.own(b, web, q), q >= 12 && (b == 1 || b == 2) ? 0 : 1);
+                sheet.due(x.own(b, web, 2 * b), 1);
+            }
+            sheet.due(x.letter(2, web, 11, 'c'), 0);
+            sheet.due(x.letter(2, web, 12, 'c'), 1);
+        }
     }
 
     private static void chain() {

@@ -18,6 +18,10 @@ public final class BoundsOfSourcingTest {
         bestWebs();
         bestRates();
         bestNow();
+        bestLate();
+        bestOfMany();
+        bestOfDearWeb();
+        bestLandsOfParts();
         bestLetters();
         bestLettersAtMost();
         ties();
@@ -270,6 +274,70 @@ public final class BoundsOfSourcingTest {
         sheet.due(x.best(0, 0, 0, 1000, 1), 4);
         x.days(1);
         sheet.due(x.best(0, 0, 0, 1000, 1), 100);
+    }
+
+    private static void bestLate() {
+        fresh("32: as known NOW, on DAY 2,000");
+        x.offer(0, 0, 0, 0, 0);
+        x.days(1000);
+        x.days(1000);
+        x.members(0, 3, 2000);
+        rule(0, 2000, "r:1;d:7");
+        sheet.due(x.best(0, 0, 0, 1000, 1), 7);
+        x.members(1, 3, 0);
+        rule(1, 0, "r:1;d:y");
+        sheet.due(x.best(0, 0, 0, 1000, 1), 5);
+        x.members(1, 2, 2000);
+        sheet.due(x.best(0, 0, 0, 1000, 1), 7);
+    }
+
+    private static void bestOfMany() {
+        fresh("32: the last of 256 ways is the cheapest");
+        for (int part = 0; part <= 3; part++) for (int i = 0; i < 4; i++) x.offer(part, i == 3 ? 0 : 3, 0, 0, 0);
+        sheet.due(x.best(0, 0, 0, 1, 1), 0);
+        for (int part = 0; part <= 3; part++) sheet.due(x.chosen(0, 0, 0, 1, 1, part), 3);
+        sheet.of("32: the first of 256 ways is the cheapest");
+        x.offers();
+        for (int part = 0; part <= 3; part++) for (int i = 0; i < 4; i++) x.offer(part, i == 0 ? 2 : 3, 0, 0, 0);
+        sheet.due(x.best(0, 0, 0, 1, 1), 8);
+        for (int part = 0; part <= 3; part++) sheet.due(x.chosen(0, 0, 0, 1, 1, part), 0);
+    }
+
+    private static void bestOfDearWeb() {
+        fresh("32: the cheaper WEB may be any, the OFFER that is OWN of it any");
+        for (int cheap = 0; cheap < 4; cheap++) {
+            for (int dear = 0; dear < 4; dear++) {
+                if (cheap == dear) continue;
+                x = new MadeWhere();
+                for (int web = 0; web < 4; web++) {
+                    x.members(web, 3, 0);
+                    sheet.due(rule(web, 0, "r:c=0?1;d:" + (web == cheap ? 0 : 50)), web);
+                }
+                x.days(cheap % 2 * 1000);
+                x.offer(0, 10, 0, 1 << dear, 0);
+                x.offer(0, 11, 0, 0, 0);
+                x.offer(0, 59, 0, 1 << cheap, 0);
+                x.offer(0, 59, 0, 15, 0);
+                sheet.due(x.best(0, 0, 0, 1000, 1), 59);
+                sheet.due(x.chosen(0, 0, 0, 1000, 1, 0), 2);
+                sheet.due(x.best(0, 0, 0, 999, 1), 59);
+                sheet.due(x.chosen(0, 0, 0, 999, 1, 0), 0);
+                sheet.due(x.best(0, 0, 0, 20, 1), 11);
+                sheet.due(x.chosen(0, 0, 0, 20, 1, 0), 0);
+            }
+        }
+    }
+
+    private static void bestLandsOfParts() {
+        fresh("32: o of those OWN of the WEB from other LANDS than the good's");
+        for (int web = 0; web < 4; web++) x.members(web, 15, 0);
+        for (int web = 0; web < 4; web++) rule(web, 0, "r:o=30?1;d:" + web);
+        for (int land = 0; land < 4; land++) {
+            x.offers();
+            for (int part = 0; part <= 3; part++) x.offer(part, 15, 0, 15, part < 2 ? land : (land + part) % 8);
+            for (int to = 0; to < 4; to++) sheet.due(x.best(land, 0, 0, 1000, to), to == land ? 160 : 60);
+            for (int to = 0; to < 4; to++) sheet.due(x.best((land + 1) % 4, 0, 0, 1000, to), 160);
+        }
     }
 
     /** Whether the good of LAND 0, HEADING 7, PROCESS 4 and PRICE 1,000 is OWN of WEB 0 by such a condition. */
@@ -526,5 +594,10 @@ public final class BoundsOfSourcingTest {
         int[] more = {3, 9, 4, 9, 5};
         for (int n : more) x.word(1, n);
         strikes(1, 7, 8, 10);
+        sheet.of("36: what is struck already frees no more");
+        x.grown(0, 0, 1, 5);
+        int[] last = {1, 1, 9, 3, 5, 6};
+        for (int n : last) x.word(2, n);
+        strikes(2, 14, 16, 17);
     }
 }
