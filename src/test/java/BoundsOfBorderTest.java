@@ -17,11 +17,15 @@ public final class BoundsOfBorderTest {
         stateBounds();
         stateOrder();
         stateLands();
+        stateDays();
+        stateWebs();
+        stateAfterBooking();
         stateStops();
         statePapers();
         stateLate();
         quotaAtMost();
         quotaWhose();
+        quotaApart();
         quotaOwn();
         quotaYears();
         quotaAnew();
@@ -36,6 +40,8 @@ public final class BoundsOfBorderTest {
         sumsOfLines();
         checkBounds();
         checkWeights();
+        checkWebs();
+        checkAfterBooking();
         checkMost();
         checkGoingRound();
         checkAnew();
@@ -260,6 +266,79 @@ public final class BoundsOfBorderTest {
         sheet.due(x.state(0, 11), 3);
     }
 
+    private static void stateDays() {
+        fresh("26: MEMBERS on each SHIPMENT's own DAY");
+        x.members(1, 255, 0);
+        x.members(1, 255 - 16, 5);
+        x.members(1, 255, 10);
+        rule(1, 0, "s:400;g:2000");
+        for (int land = 0; land < 8; land++) x.grown(7 - land, 0, 1, 1000);
+        int[] days = {0, 4, 5, 9, 10};
+        for (int day : days) {
+            x.days(day - x.count(0));
+            for (int b = 0; b < 8; b++) {
+                int s = x.ship(b, 1, (3 + b) % 8, 1, 0);
+                x.paper(s, 0);
+                int from = 7 - b, to = (3 + b) % 8;
+                boolean without = day >= 5 && day < 10 && (from == 4 || to == 4);
+                sheet.due(x.state(s, day), without || from == to ? 2 : 1);
+            }
+        }
+        sheet.due(x.count(4), 40);
+        for (int s = 0; s < 40; s++) {
+            int b = s % 8, from = 7 - b, to = (3 + b) % 8, day = days[s / 8];
+            boolean without = day >= 5 && day < 10 && (from == 4 || to == 4);
+            sheet.due(x.state(s, 10), without || from == to ? 2 : 1);
+        }
+    }
+
+    private static void stateWebs() {
+        fresh("26 and 27: whichever WEB is claimed");
+        for (int web = 0; web < 4; web++) {
+            x.members(web, 3, 0);
+            rule(web, 0, "r:1;g:2000;d:" + (web + 1));
+        }
+        x.grown(0, 7, 10, 1000);
+        x.lay(0, 1);
+        x.made(0, 7, 0, 10, 1000);
+        for (int b = 0; b < 2; b++) {
+            for (int web = 0; web < 4; web++) {
+                int s = x.ship(b, 100, 1, web, 0);
+                x.paper(s, 0);
+                sheet.due(x.state(s, 0), 1);
+                sheet.due(x.duty(s, 0), web + 1);
+            }
+        }
+        sheet.due(x.count(10), 8);
+        for (int web = 3; web >= 0; web--) {
+            rule(web, 0, "r:0;g:2000;d:" + (web + 5));
+            for (int s = 0; s < 8; s++) {
+                boolean anew = s % 4 >= web;
+                sheet.due(x.state(s, 0), anew && s > 3 ? 3 : 1);
+                sheet.due(x.duty(s, 0), !anew ? s % 4 + 1 : s > 3 ? 100 : s % 4 + 5);
+            }
+        }
+    }
+
+    private static void stateAfterBooking() {
+        fresh("26 and 27: as known in q, whatever was booked behind it");
+        road("g:2000;d:1");
+        x.days(3);
+        send(0, 1000);
+        send(1, 2000);
+        x.days(2);
+        sheet.due(x.book(), 2);
+        x.undo(0);
+        sheet.due(x.book(), 1);
+        for (int q = 3; q <= 5; q++) {
+            sheet.due(x.state(0, 5), 3);
+            sheet.due(x.state(0, q), q < 5 ? 1 : 3);
+            sheet.due(x.duty(0, q), q < 5 ? 10 : 1000);
+            sheet.due(x.state(1, q), 1);
+            sheet.due(x.duty(1, q), 20);
+        }
+    }
+
     private static void stateStops() {
         fresh("26: STOPS are more than WORTH of s");
         road("s:5;g:2000");
@@ -411,6 +490,28 @@ public final class BoundsOfBorderTest {
         states(0, 0, 2, 3, 4, 5, 1, 6);
         x.paper(4, 0);
         states(0, 0, 2, 3, 4, 1, 6, 6);
+    }
+
+    private static void quotaApart() {
+        fresh("26: another LAND, WEB or HEADING, lower or higher, has a QUOTA apart");
+        int[][] kinds = {{0, 1, 1}, {1, 1, 1}, {0, 2, 1}, {0, 1, 2}, {1, 2, 1}, {0, 2, 2}, {1, 1, 2}, {1, 2, 2}};
+        for (int[] one : kinds) {
+            for (int[] other : kinds) {
+                x = new MadeWhere();
+                for (int web = 1; web <= 2; web++) {
+                    x.members(web, 15, 0);
+                    rule(web, 0, "g:2000;z:10");
+                }
+                x.grown(0, 7, 10, 100);
+                x.grown(0, 8, 10, 100);
+                int[][] sent = {one, other, one, other};
+                for (int s = 0; s < 4; s++) {
+                    x.ship(sent[s][0], s < 2 ? 10 : 1, sent[s][1], sent[s][2], 0);
+                    x.paper(s, 0);
+                }
+                states(0, 1, one == other ? 6 : 1, 6, 6);
+            }
+        }
     }
 
     private static void quotaOwn() {
@@ -801,6 +902,42 @@ public final class BoundsOfBorderTest {
         for (long seed = 40; seed < 50; seed++) {
             int[] want = drawn(seed, heavier);
             for (int i = 0; i < 7; i++) sheet.due(x.check(7, seed, i), want[i]);
+        }
+    }
+
+    private static void checkWebs() {
+        fresh("38: letter n, no other letter, of its BATCH by its WEB, whichever it is");
+        for (int web = 0; web < 4; web++) {
+            x.members(web, 3 | 4 << web, 0);
+            rule(web, 0, "r:1;g:2000");
+        }
+        x.grown(0, 0, 1, 10000);
+        for (int land = 2; land < 6; land++) x.grown(land, land % 2, 1, 10000);
+        int[] parts = {500, 100, 200, 400, 700};
+        for (int b = 0; b < 5; b++) x.lay(b, parts[b]);
+        int mixed = x.made(0, 0, 0, 1, 1000);
+        for (int web = 0; web < 4; web++) {
+            int s = x.ship(mixed, 1, 1, web, 0);
+            x.paper(s, 0);
+        }
+        sheet.due(x.count(10), 4);
+        int[] weights = {14, 13, 11, 8};
+        for (long seed = 0; seed < 60; seed++) {
+            int[] want = drawn(seed, weights);
+            for (int i = 0; i < 4; i++) sheet.due(x.check(4, seed, i), want[i]);
+        }
+    }
+
+    private static void checkAfterBooking() {
+        fresh("38: whatever is booked");
+        road("g:2000;d:1000");
+        for (int s = 0; s < 5; s++) send(s % 2, 1 + s);
+        int[] weights = {1, 1, 1, 1, 1};
+        for (int n = 0; n < 3; n++) {
+            for (long seed = 0; seed < 20; seed++) for (int i = 0; i < 5; i++) sheet.due(x.check(5, seed, i), drawn(seed, weights)[i]);
+            x.mend(0, 20 + n);
+            x.mend(1, 20 + n);
+            sheet.due(x.book(), 5);
         }
     }
 

@@ -24,6 +24,7 @@ public final class BoundsOfOriginTest {
         movedBounds();
         movedOnAllDays();
         movedMany();
+        movedWebs();
         sheet.end();
     }
 
@@ -431,6 +432,24 @@ public final class BoundsOfOriginTest {
         rule(1, 0, "r:0");
         sheet.due(x.moved(3, 1), 4);
         sheet.due(x.moved(4, 1), 0);
+    }
+
+    private static void movedWebs() {
+        fresh("34: of its WEB, whichever it is");
+        x.grown(0, 0, 1, 100);
+        for (int process = 1; process <= 3; process++) make(0, 0, process, 1, 1, 0, 1);
+        for (int web = 0; web < 4; web++) x.members(web, 1, 0);
+        for (int web = 0; web < 4; web++) rule(web, 0, "r:p>" + web + "?1");
+        for (int web = 0; web < 4; web++) rule(web, 2000, "r:p<" + web + "?1");
+        for (int again = 0; again < 2; again++) {
+            for (int web = 0; web < 4; web++) {
+                sheet.due(x.moved(web, 0), 0);
+                sheet.due(x.moved(web, 1), 0);
+                sheet.due(x.moved(4 + web, 0), 3 - web);
+                sheet.due(x.moved(4 + web, 1), Math.max(0, web - 1));
+                for (int b = 1; b <= 3; b++) sheet.due(x.own(b, web, 0), b > web ? 1 : 0);
+            }
+        }
     }
 
     private static void movedMany() {

@@ -20,8 +20,11 @@ public final class BoundsOfSourcingTest {
         bestNow();
         bestLate();
         bestOfMany();
-        bestOfDearWeb();
+        bestOfDearWeb(0, 0, 0);
+        bestOfDearWeb(7, 60, 9);
         bestLandsOfParts();
+        chosenLands();
+        bestWithoutWebs();
         bestLetters();
         bestLettersAtMost();
         ties();
@@ -33,6 +36,7 @@ public final class BoundsOfSourcingTest {
         struckTwelve();
         struckAll();
         struckLower();
+        struckApart();
         sheet.end();
     }
 
@@ -118,6 +122,9 @@ public final class BoundsOfSourcingTest {
             sheet.due(x.chosen(0, 0, 0, 1, n, 0), NONE);
         }
         sheet.due(x.best(0, 0, 0, 1, 0), 5);
+        sheet.due(x.best(7, 99, 9, 1, 7), 5);
+        sheet.due(x.best(7, 99, 10, 1000000, 7), NONE);
+        sheet.due(x.chosen(7, 99, 10, 1000000, 7, 0), NONE);
         sheet.due(x.best(7, 99, 9, 1000000, 7), 100005);
         sheet.due(x.chosen(7, 99, 9, 1000000, 7, 0), 0);
     }
@@ -303,27 +310,30 @@ public final class BoundsOfSourcingTest {
         for (int part = 0; part <= 3; part++) sheet.due(x.chosen(0, 0, 0, 1, 1, part), 0);
     }
 
-    private static void bestOfDearWeb() {
+    private static void bestOfDearWeb(int land, int heading, int process) {
         fresh("32: the cheaper WEB may be any, the OFFER that is OWN of it any");
         for (int cheap = 0; cheap < 4; cheap++) {
             for (int dear = 0; dear < 4; dear++) {
                 if (cheap == dear) continue;
                 x = new MadeWhere();
+                for (int web = 0; web < 4; web++) sheet.due(rule(web, 0, "r:0"), web);
                 for (int web = 0; web < 4; web++) {
-                    x.members(web, 3, 0);
-                    sheet.due(rule(web, 0, "r:c=0?1;d:" + (web == cheap ? 0 : 50)), web);
+                    x.members(web, 1 << land | 2, 0);
+                    sheet.due(rule(web, 0, "r:c=0?1;d:" + (web == cheap ? 0 : 50)), 4 + web);
                 }
                 x.days(cheap % 2 * 1000);
-                x.offer(0, 10, 0, 1 << dear, 0);
-                x.offer(0, 11, 0, 0, 0);
-                x.offer(0, 59, 0, 1 << cheap, 0);
-                x.offer(0, 59, 0, 15, 0);
-                sheet.due(x.best(0, 0, 0, 1000, 1), 59);
-                sheet.due(x.chosen(0, 0, 0, 1000, 1, 0), 2);
-                sheet.due(x.best(0, 0, 0, 999, 1), 59);
-                sheet.due(x.chosen(0, 0, 0, 999, 1, 0), 0);
-                sheet.due(x.best(0, 0, 0, 20, 1), 11);
-                sheet.due(x.chosen(0, 0, 0, 20, 1, 0), 0);
+                int another = 0;
+                while (another == cheap || another == dear) another++;
+                x.offer(0, 10, heading, 1 << dear, land);
+                x.offer(0, 11, heading, 1 << another, land);
+                x.offer(0, 59, heading, 1 << cheap, land);
+                x.offer(0, 59, heading, 15, land);
+                sheet.due(x.best(land, heading, process, 1000, 1), 59);
+                sheet.due(x.chosen(land, heading, process, 1000, 1, 0), 2);
+                sheet.due(x.best(land, heading, process, 999, 1), 59);
+                sheet.due(x.chosen(land, heading, process, 999, 1, 0), 0);
+                sheet.due(x.best(land, heading, process, 20, 1), 11);
+                sheet.due(x.chosen(land, heading, process, 20, 1, 0), 0);
             }
         }
     }
@@ -338,6 +348,41 @@ public final class BoundsOfSourcingTest {
             for (int to = 0; to < 4; to++) sheet.due(x.best(land, 0, 0, 1000, to), to == land ? 160 : 60);
             for (int to = 0; to < 4; to++) sheet.due(x.best((land + 1) % 4, 0, 0, 1000, to), 160);
         }
+    }
+
+    private static void bestWithoutWebs() {
+        fresh("32: without WEBS the cheapest OFFERS, whatever the LAND, HEADING, PROCESS and NOW");
+        x.days(1000);
+        x.days(1000);
+        int[] tariffs = {0, 1, 1000};
+        for (int part = 0; part <= 3; part++) {
+            for (int i = 0; i < 4; i++) x.offer(part, 8 - i, 0, 15, 0);
+            for (int t : tariffs) {
+                x.tariff(1, 60, t);
+                sheet.due(x.best(7, 60, 9, 1000, 1), 5 * (part + 1) + t);
+                for (int p = 0; p <= part; p++) sheet.due(x.chosen(7, 60, 9, 1000, 1, p), 3);
+            }
+        }
+    }
+
+    private static void chosenLands() {
+        fresh("33: from one LAND to another, not the other way round");
+        x.members(0, 0b00100100, 0);
+        rule(0, 0, "r:o=0?1;d:0");
+        x.offer(0, 50, 3, 1, 5);
+        x.offer(0, 60, 3, 1, 2);
+        sheet.due(x.best(2, 3, 4, 1000, 5), 60);
+        sheet.due(x.chosen(2, 3, 4, 1000, 5, 0), 1);
+        sheet.due(x.best(5, 3, 4, 1000, 2), 50);
+        sheet.due(x.chosen(5, 3, 4, 1000, 2, 0), 0);
+        sheet.of("33: HEADING and PROCESS apart");
+        rule(0, 0, "r:b=0&p=4?1;d:0");
+        x.offers();
+        x.offer(0, 50, 4, 0, 5);
+        x.offer(0, 60, 3, 0, 5);
+        sheet.due(x.chosen(2, 4, 4, 1000, 5, 0), 1);
+        sheet.due(x.chosen(2, 3, 4, 1000, 5, 0), 0);
+        sheet.due(x.chosen(2, 4, 3, 1000, 5, 0), 0);
     }
 
     /** Whether the good of LAND 0, HEADING 7, PROCESS 4 and PRICE 1,000 is OWN of WEB 0 by such a condition. */
@@ -599,5 +644,17 @@ public final class BoundsOfSourcingTest {
         int[] last = {1, 1, 9, 3, 5, 6};
         for (int n : last) x.word(2, n);
         strikes(2, 14, 16, 17);
+    }
+
+    private static void struckApart() {
+        fresh("36: each BATCH by its own WORDS, whichever was asked before");
+        x.grown(0, 0, 1, 10000);
+        x.grown(0, 0, 1, 4);
+        for (int i = 0; i < 12; i++) x.word(0, 900);
+        for (int i = 0; i < 3; i++) x.word(1, 5);
+        for (int again = 0; again < 2; again++) {
+            strikes(0, 0);
+            strikes(1, 12, 13, 14);
+        }
     }
 }

@@ -33,6 +33,7 @@ public final class BoundsOfStockTest {
         undoing();
         toldBounds();
         entryBounds();
+        entriesApart();
         sheet.end();
     }
 
@@ -572,6 +573,40 @@ public final class BoundsOfStockTest {
         for (int i = 0; i < 100; i++) sheet.due(x.undo(99 - i), true);
         sheet.due(x.count(9), 100);
         sheet.due(x.undo(0), false);
+        fresh("19: whether its PROOF is UNDONE, however late");
+        x.days(1000);
+        x.days(900);
+        for (int b = 0; b < 3; b++) x.grown(0, 0, 1, 1);
+        x.days(100);
+        sheet.due(x.undo(1), true);
+        for (int b = 0; b < 3; b++) sheet.due(Sheet.fact(x, b, 8), b == 1 ? 1 : 0);
+        sheet.due(x.count(9), 1);
+    }
+
+    private static void entriesApart() {
+        fresh("20: entries of each BATCH, whatever is made of it, told or UNDONE behind it");
+        x.grown(0, 0, 1, 10000);
+        for (int b = 1; b <= 14; b++) {
+            for (int i = 0; i < 6; i++) sheet.due(x.lay(i == 5 ? b - 1 : 0, 20 + b + i), i + 1);
+            sheet.due(x.made(0, 0, 0, 1, 1000), b);
+        }
+        sheet.due(x.undo(0), true);
+        for (int b = 15; b <= 18; b++) {
+            sheet.due(x.grown(0, 0, 1, 1), b);
+            sheet.due(x.undo(b), true);
+        }
+        for (int b = 1; b <= 14; b++) {
+            sheet.due(Sheet.fact(x, b, 7), 6);
+            for (int i = 0; i < 6; i++) {
+                sheet.due(x.entry(b, i, 0), i == 5 ? b - 1 : 0);
+                sheet.due(x.entry(b, i, 1), 20 + b + i);
+            }
+        }
+        for (int b = 15; b <= 18; b++) sheet.due(Sheet.fact(x, b, 7), 0);
+        sheet.due(x.lay(3, 7), 1);
+        sheet.due(x.made(0, 0, 0, 1, 1), 19);
+        sheet.due(Sheet.fact(x, 19, 7), 1);
+        entryIs(19, 0, 3, 7);
     }
 
     private static void toldBounds() {

@@ -12,11 +12,16 @@ public final class BoundsOfTextTest {
         nextBytes();
         digits();
         deepest();
+        deepestBehindSigns();
+        everyLength();
+        oneBehindAnother();
         blanks();
         range();
         wraps();
         division();
         worths();
+        manyOfAKind();
+        manyWaiting();
         untoldLetters();
         protocolBounds();
         protocolFull();
@@ -254,6 +259,54 @@ public final class BoundsOfTextTest {
         fault("r: ! ! ! ! ! ! ! ! ! 1", 19);
     }
 
+    private static void deepestBehindSigns() {
+        sheet.of("7: a ninth of ( [ and ! is a fault behind every sign, within all that is open there");
+        String[] sums = {"+", "-", "*", "/", "+1*", "*1+", "-1-", "/1/"};
+        String[] compared = {"=", "<", ">", "=1+", "=1*", "+1=", "*1<"};
+        String[] joined = {"&", "|", "&1=1|", "|1=1&", "&1=1&", "|1=1|", "&(1=1)|", "|!1=1&"};
+        for (int open = 0; open <= 8; open++) {
+            for (String s : sums) ninth("r:" + "[".repeat(open) + "1" + s, 8 - open, "[");
+            for (String s : sums) ninth("r:1=1?" + "[".repeat(open) + "1" + s, 8 - open, "[");
+            for (String s : compared) ninth("r:" + "(".repeat(open) + "1" + s, 8 - open, "[");
+            for (String s : joined) {
+                if (open == 8 && s.matches(".*[(!].*")) continue;
+                for (String sign : new String[] {"(", "!", "["}) ninth("r:" + "(".repeat(open) + "1=1" + s, 8 - open, sign);
+            }
+        }
+        for (String s : new String[] {"(", "!", "["}) ninth("r:!!!(1=1)&!(1=1)|", 8, s);
+        ninth("r:1;d:", 8, "[");
+        ninth("r:[[[[[[[[1]]]]]]]];d:", 8, "[");
+        ninth("r:((((((((1=1))))))))?", 8, "[");
+    }
+
+    /** So many more may stand behind the text, and not one more. */
+    private static void ninth(String text, int more, String sign) {
+        fault(text + sign.repeat(more) + "1", text.length() + more + 1);
+        fault(text + sign.repeat(more + 1) + "1", text.length() + more);
+    }
+
+    private static void everyLength() {
+        sheet.of("7: a CONDITION that begins with a SUM, in a TAPE of every length");
+        for (int more = 0; more <= 193; more++) fault("r:1=1?1" + " ".repeat(more), NONE);
+        for (int more = 0; more <= 195; more++) fault("r:1=1" + " ".repeat(more), 5 + more);
+    }
+
+    private static void oneBehindAnother() {
+        fresh("7: a TAPE's FAULT, whatever was read before it");
+        String[] texts = {"r:50" + "+50".repeat(60), "r:12345", "r:" + "50=50&".repeat(30) + "1=1?57;d:48", "r:1+12345", "r:[[[[[[[[1]]]]]]]];d:99999",
+            "r:" + "!(1=1)&".repeat(20) + "c>0?55", "r:1;d:12345;s:12345=12345?1"};
+        for (String before : texts) {
+            for (String text : texts) {
+                Tapes.feed(x, before);
+                sheet.due(x.fault(), NONE);
+                Tapes.feed(x, "r:((1");
+                sheet.due(x.fault(), 5);
+                Tapes.feed(x, text);
+                sheet.due(x.fault(), NONE);
+            }
+        }
+    }
+
     private static void blanks() {
         sheet.of("7: blanks (32) between all these, not within numbers");
         fault("r  :  a  =  1  &  !  b  <  [  2  ]  |  (  c  >  3  )  ?  h  +  1  ;  d  :  2", NONE);
@@ -359,6 +412,15 @@ public final class BoundsOfTextTest {
         sheet.due(worth("s:9"), 0);
         sheet.due(worth("d:1=2?5"), 0);
         sheet.due(worth("d:1=2?5;d:2<1?6;s:1"), 0);
+        fresh("8: WORTH is 0 without, in a TAPE of 200 bytes");
+        x.members(0, 3, 0);
+        x.offer(0, 0, 0, 0, 0);
+        x.tariff(1, 0, 1000);
+        sheet.due(x.best(0, 0, 0, 1000, 1), 1000);
+        sheet.due(Sheet.rule(x, 0, 0, "r:1" + "+1".repeat(98) + "1"), 0);
+        sheet.due(x.best(0, 0, 0, 1000, 1), 0);
+        sheet.due(Sheet.rule(x, 0, 0, "d:9;" + "s:1;".repeat(48) + "g:1"), 1);
+        sheet.due(x.best(0, 0, 0, 1000, 1), 1000);
         sheet.of("8: = < > at their edges");
         sheet.due(worth("d:5<5?1;d:2"), 2);
         sheet.due(worth("d:4<5?1;d:2"), 1);
@@ -366,6 +428,11 @@ public final class BoundsOfTextTest {
         sheet.due(worth("d:6>5?1;d:2"), 1);
         sheet.due(worth("d:5=5?1;d:2"), 1);
         sheet.due(worth("d:4=5?1;d:2"), 2);
+        sheet.due(worth("d:6=5?1;d:2"), 2);
+        sheet.due(worth("d:6<5?1;d:2"), 2);
+        sheet.due(worth("d:4>5?1;d:2"), 2);
+        sheet.due(worth("d:0-9>0-8?1;d:2"), 2);
+        sheet.due(worth("d:0-8>0-9?1;d:2"), 1);
         sheet.due(worth("d:0-1<0?1;d:2"), 1);
         sheet.of("8: & holds with both, | with one, ! without");
         String[] held = {"1=2", "1=1"};
@@ -381,8 +448,50 @@ public final class BoundsOfTextTest {
                     String all = held[a] + "|" + held[b] + "&" + held[c];
                     sheet.due(worth("d:" + all + "?1;d:2"), a + b * c > 0 ? 1 : 2);
                     sheet.due(worth("d:(" + held[a] + "|" + held[b] + ")&" + held[c] + "?1;d:2"), (a + b) * c > 0 ? 1 : 2);
+                    sheet.due(worth("d:" + held[a] + "&" + held[b] + "|" + held[c] + "?1;d:2"), a * b + c > 0 ? 1 : 2);
+                    sheet.due(worth("d:" + held[a] + "&(" + held[b] + "|" + held[c] + ")?1;d:2"), a * (b + c) > 0 ? 1 : 2);
+                    sheet.due(worth("d:!" + held[a] + "|" + held[b] + "&!" + held[c] + "?1;d:2"), 1 - a + b * (1 - c) > 0 ? 1 : 2);
                 }
             }
+        }
+        sheet.of("8: PARTS with | between, UNITS with & between");
+        for (int bits = 0; bits < 16; bits++) {
+            int a = bits & 1, b = bits >> 1 & 1, c = bits >> 2 & 1, d = bits >> 3;
+            sheet.due(worth("d:" + held[a] + "&" + held[b] + "|" + held[c] + "&" + held[d] + "?1;d:2"), a * b + c * d > 0 ? 1 : 2);
+            sheet.due(worth("d:" + held[a] + "|" + held[b] + "&" + held[c] + "|" + held[d] + "?1;d:2"), a + b * c + d > 0 ? 1 : 2);
+            sheet.due(worth("d:" + held[a] + "&" + held[b] + "&" + held[c] + "|" + held[d] + "?1;d:2"), a * b * c + d > 0 ? 1 : 2);
+        }
+    }
+
+    private static void manyOfAKind() {
+        sheet.of("8: as many of a kind as a TAPE holds");
+        for (int last = 1; last <= 2; last++) {
+            sheet.due(worth("d:" + "1=2|".repeat(46) + "1=" + last + "?3;d:4"), last == 1 ? 3 : 4);
+            sheet.due(worth("d:" + "1=1&".repeat(46) + "1=" + last + "?3;d:4"), last == 1 ? 3 : 4);
+            sheet.due(worth("d:1=" + last + "&1=1".repeat(46) + "?3;d:4"), last == 1 ? 3 : 4);
+        }
+        sheet.due(worth("d:2" + "*1".repeat(95) + "*3"), 6);
+        sheet.due(worth("d:96" + "/1".repeat(95) + "/2"), 48);
+        sheet.due(worth("d:99" + "-1".repeat(96)), 3);
+        sheet.due(worth("d:3" + "+2".repeat(96)), 195);
+        sheet.of("8: the last of as many CLAUSES as a TAPE holds");
+        sheet.due(worth("s:1;".repeat(48) + "d:7"), 7);
+        sheet.due(worth("d:1=2?5;".repeat(24) + "d:7"), 7);
+        sheet.due(worth("s:1=2?5;".repeat(24) + "d:7"), 7);
+        sheet.of("8: a CLAUSE that begins late");
+        for (int more = 0; more <= 94; more++) sheet.due(worth("s:1" + "+1".repeat(more) + ";d:7"), 7);
+        sheet.due(worth("s:1=2" + "&1=1".repeat(46) + "?1;d:7"), 7);
+    }
+
+    private static void manyWaiting() {
+        sheet.of("8: numbers that wait for their sign within one another");
+        sheet.due(worth("d:" + "1+2*[".repeat(8) + "1+0*5" + "]".repeat(8)), 511);
+        sheet.due(worth("d:" + "999-1*[".repeat(8) + "1+2*3" + "]".repeat(8)), 7);
+        sheet.due(worth("d:7=" + "9-1*[".repeat(8) + "1+2*3" + "]".repeat(8) + "?5;d:6"), 5);
+        for (int last = 7; last <= 8; last++) {
+            String inmost = "1=2|1=1&" + last + "=1+2*3";
+            sheet.due(worth("d:" + "1=2|1=1&(".repeat(8) + inmost + ")".repeat(8) + "?5;d:6"), last == 7 ? 5 : 6);
+            sheet.due(worth("d:" + "1=1&!(".repeat(4) + inmost + ")".repeat(4) + "?5;d:6"), last == 7 ? 5 : 6);
         }
     }
 
